@@ -578,7 +578,7 @@ public final class WhateverYard {
             return letter >= '0' && letter <= '9';
         }
 
-        /** The first blame stays: letters are read in order, and what is read after it is thrown away. */
+        /** The first blame stays: letters are read in order, and what is read behind it counts for nothing. */
         private void blame(int number, int at) {
             if (number == 0 || faultNumber != 0) return;
             faultNumber = number;
