@@ -18,6 +18,8 @@ public final class ShopTest {
         firstFaultCounts();
         faultChangesNothing();
         newShopClears();
+        shopAfterShop();
+        textAfterText();
         Due.end();
     }
 
@@ -313,6 +315,65 @@ public final class ShopTest {
         Due.due("no image", yard.goBack(0), Due.NOT);
         Due.due("nothing told", yard.tear(), 0);
         Due.due("the seed stays", yard.seed(0), 5);
+    }
+
+    /** Nothing of the shops ahead of it, the last or an earlier one, is left in a smaller shop. */
+    private static void shopAfterShop() {
+        WhateverYard yard = Due.open(FULL_SHOP);
+        shopAgain(yard, "d1;u2;u3;p1 4;", 1, 2, 0, 1, 0, 0, 0, 0, 12, 0, 0, 0, 1);
+        shopAgain(yard, "d2;u4;u6;p1 2;n0 5;", 2, 2, 0, 1, 1, 0, 0, 0, 12, 0, 0, 0, 1);
+        Due.due("piece(0, 1)", yard.piece(0, 1), 1);
+        Due.due("piece(0, 2)", yard.piece(0, 2), 2);
+        Due.due("wanted(0, 1)", yard.wanted(0, 1), 5);
+        Due.due("agree()", yard.agree(), 1);
+        Due.due("clash()", yard.clash(), Due.NONE);
+        Due.due("slips()", yard.slips(), 0);
+        Due.due("most(0, 1, 9, -1)", yard.most(0, 1, 9, -1), Due.NONE);
+        Due.due("gain(0)", yard.gain(0), Due.NONE);
+        Due.due("leastDues()", yard.leastDues(), 0);
+        Due.due("cutting(-1), want too long", yard.cutting(-1), Due.NONE);
+        Due.due("remnants()", yard.remnants(), 0);
+        Due.due("boughtFor()", yard.boughtFor(), 3);
+        shopAgain(yard, "d3;u4;p0 6;n0 5;", 3, 1, 0, 1, 1, 0, 0, 0, 24, 0, 0, 0, 1);
+        Due.due("cutting(-1)", yard.cutting(-1), 4);
+        Due.due("piece(0, 1)", yard.piece(0, 1), 0);
+        shopAgain(yard, "d2;u4;u6;t1 0 7 5;", 2, 2, 1, 0, 0, 0, 0, 0, 0, 0, 0, 0, 1);
+        int[] table = {1, 0, 7, 5};
+        for (int what = 0; what < 4; what++) Due.due("table(0, " + what + ")", yard.table(0, what), table[what]);
+        Due.due("most(0, 1, 9, -1)", yard.most(0, 1, 9, -1), Due.NONE);
+        Due.due("most(1, 0, 9, -1)", yard.most(1, 0, 9, -1), 6);
+        Due.due("gain(0)", yard.gain(0), Due.NONE);
+        shopAgain(yard, FULL_SHOP, 5, 6, 8, 6, 6, 0, 0, 0, 2620, 0, 0, 0, 1);
+        yard.cutting(0);
+        shopAgain(yard, "d4;u1;p0 1;n0 5;", 4, 1, 0, 1, 1, 0, 0, 0, 1, 0, 0, 0, 1);
+        Due.due("cutting(-1), only gone pieces would do", yard.cutting(-1), Due.NONE);
+        Due.due("cutting(0)", yard.cutting(0), Due.NONE);
+        shopAgain(yard, " ", 0, 0, 0, 0, 0, 0, 0, 0, 0, 0, 0, 0, 0);
+        Due.due("cutting(-1) of no shop", yard.cutting(-1), 0);
+        for (int again = 0; again < 2; again++) {
+            shopAgain(yard, "d0;u1;u2;u3;t0 1 2 3;t2 1 3 4;", 0, 3, 2, 0, 0, 0, 0, 0, 0, 0, 0, 0, 1);
+            shopAgain(yard, "", 0, 0, 0, 0, 0, 0, 0, 0, 0, 0, 0, 0, 0);
+        }
+    }
+
+    private static void shopAgain(WhateverYard yard, String text, int... told) {
+        Due.feed(yard, text);
+        Due.due("shop() of '" + text + "' on an old object", yard.shop(), told[1]);
+        for (int what = 0; what < told.length; what++) {
+            Due.due("'" + text + "': told(" + what + ")", yard.told(what), told[what]);
+        }
+    }
+
+    /** Letters of a longer text ahead of it are not read again. */
+    private static void textAfterText() {
+        String[][] texts = {{"d10;", "d10", "3"}, {"d10;", "d1", "2"}, {"d1   ;", "d1", "2"}, {"d1;u9;", "d1;u", "4"},
+            {"d1;u9;", "d1;u9", "5"}, {"d1;u1;u1;t0 1 1 1;", "d1;u1;u1;t0", "11"}};
+        for (String[] text : texts) {
+            WhateverYard yard = Due.open(text[0]);
+            Due.feed(yard, text[1]);
+            Due.due("shop() of '" + text[1] + "' behind '" + text[0] + "'", yard.shop(), -11);
+            Due.due("fault() of '" + text[1] + "' behind '" + text[0] + "'", yard.fault(), Integer.parseInt(text[2]));
+        }
     }
 
     private static void fault(String text, int number, int place) {
