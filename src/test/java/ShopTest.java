@@ -350,6 +350,13 @@ public final class ShopTest {
         Due.due("cutting(0)", yard.cutting(0), Due.NONE);
         shopAgain(yard, " ", 0, 0, 0, 0, 0, 0, 0, 0, 0, 0, 0, 0, 0);
         Due.due("cutting(-1) of no shop", yard.cutting(-1), 0);
+        shopAgain(yard, "d0;u1;u2;t0 1 1 1;t1 0 1 5;", 0, 2, 2, 0, 0, 0, 0, 0, 0, 0, 0, 0, 1);
+        Due.due("gain(1) by two tables", yard.gain(1), 500);
+        shopAgain(yard, "", 0, 0, 0, 0, 0, 0, 0, 0, 0, 0, 0, 0, 0);
+        shopAgain(yard, "d0;u1;u2;t0 1 1 1;", 0, 2, 1, 0, 0, 0, 0, 0, 0, 0, 0, 0, 1);
+        Due.due("gain(1) by one", yard.gain(1), Due.NONE);
+        Due.due("leastDues() by one", yard.leastDues(), 0);
+        shopAgain(yard, "", 0, 0, 0, 0, 0, 0, 0, 0, 0, 0, 0, 0, 0);
         for (int again = 0; again < 2; again++) {
             shopAgain(yard, "d0;u1;u2;u3;t0 1 2 3;t2 1 3 4;", 0, 3, 2, 0, 0, 0, 0, 0, 0, 0, 0, 0, 1);
             shopAgain(yard, "", 0, 0, 0, 0, 0, 0, 0, 0, 0, 0, 0, 0, 0);
