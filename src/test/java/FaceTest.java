@@ -14,10 +14,11 @@ public final class FaceTest {
     private static final String FACE = "agree() ask() boughtFor() change(2) clash() cut(3) cutting(1) drift(1) fault() feed(1) "
         + "gain(1) goBack(1) honest(2) judge() keep(1) kept(2) leastDues() left(3) most(4) piece(2) remnants() seed(1) shop() "
         + "slips() table(2) tear() told(1) turn(2) undo() wanted(2) write(2) yard(1)";
-    /** As patterns: words that the rules leave no use for, lambdas and method references among them. */
+    /** As patterns, comments and texts left out: what the rules name, lambdas and method references among it. */
     private static final String[] FORBIDDEN = {"\\bthrows?\\b", "\\btry\\b", "\\bcatch\\b", "\\bsynchronized\\b", "\\bassert\\b",
-        "\\bimport\\b", "\\bpackage\\b", "\\bprotected\\b", "->", "::", "\\bhashCode\\b", "\\btoString\\b", "Exact\\(", "\\bThread\\b",
-        "\\bRandom\\b", "\\bString\\b", "\\bdouble\\b", "\\bfloat\\b", "while \\(true\\)", "for \\(;"};
+        "\\bpackage\\b", "\\bprotected\\b", "::", "\\bhashCode\\b", "Exact\\(", "\\bThread\\b", "\\bRandom\\b", "\\bNaN\\b",
+        "\\bSystem\\.(?!arraycopy\\b)", "\\bjava\\.(?!util\\.(ArrayList|List|Iterator|Arrays)\\b)", "while \\(true\\)", "for \\(; *;",
+        "(?m)^(?!\\s*(case|default)\\b).*->"};
 
     public static void main(String[] args) throws IOException {
         methods();
@@ -43,7 +44,6 @@ public final class FaceTest {
             boolean hides = Modifier.isPrivate(method.getModifiers()) && names.contains(method.getName());
             Due.due(method + " hides a public one", hides ? 1 : 0, 0);
         }
-        Due.due("constructors", WhateverYard.class.getDeclaredConstructors().length, 1);
         Due.due("public constructors", WhateverYard.class.getConstructors().length, 1);
         Due.due("final", Modifier.isFinal(WhateverYard.class.getModifiers()) ? 1 : 0, 1);
     }
@@ -80,8 +80,9 @@ public final class FaceTest {
 
     private static void words() throws IOException {
         String source = Files.readString(Path.of("src/main/java/WhateverYard.java"));
+        String code = source.replaceAll("(?s)/\\*.*?\\*/|//[^\\n]*", " ").replaceAll("\"[^\"\\n]*\"", "TEXT");
         for (String word : FORBIDDEN) {
-            Due.due("the source has '" + word + "'", Pattern.compile(word).matcher(source).find() ? 1 : 0, 0);
+            Due.due("the source has '" + word + "'", Pattern.compile(word).matcher(code).find() ? 1 : 0, 0);
         }
         for (int i = 0; i < source.length(); i++) {
             if (source.charAt(i) > 126) Due.due("letter " + i + " of the source", source.charAt(i), 126);

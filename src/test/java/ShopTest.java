@@ -343,7 +343,11 @@ public final class ShopTest {
         Due.due("most(0, 1, 9, -1)", yard.most(0, 1, 9, -1), Due.NONE);
         Due.due("most(1, 0, 9, -1)", yard.most(1, 0, 9, -1), 6);
         Due.due("gain(0)", yard.gain(0), Due.NONE);
-        shopAgain(yard, FULL_SHOP, 5, 6, 8, 6, 6, 0, 0, 0, 2620, 0, 0, 0, 1);
+        shopsOfManyWants();
+    }
+
+    private static void shopsOfManyWants() {
+        WhateverYard yard = Due.open(FULL_SHOP);
         yard.cutting(0);
         shopAgain(yard, "d4;u1;p0 1;n0 5;", 4, 1, 0, 1, 1, 0, 0, 0, 1, 0, 0, 0, 1);
         Due.due("cutting(-1), only gone pieces would do", yard.cutting(-1), Due.NONE);
