@@ -61,9 +61,9 @@ public final class ClothEdgesTest {
     /** "LENGTH / Y of A is its YARDS", cut. */
     private static void wholeYardsOfA() {
         int[] cutOff = {0, 1, 36, 37, 71, 72};
-        int[] due = {60, 40, 40, 20, 20, 20};
+        int[] due = {120, 80, 80, 40, 40, 40};
         for (int i = 0; i < cutOff.length; i++) {
-            WhateverYard yard = Due.open("d0;u36;u20;u1;t0 1 1 1;p0 3;");
+            WhateverYard yard = Due.open("d0;u36;u20;u1;t0 1 1 2;p0 3;");
             for (int inch = 0; inch < cutOff[i]; inch++) yard.cut(0, 2, 1);
             Due.due("turn of " + (108 - cutOff[i]) + " inches", yard.turn(0, 0), due[i]);
         }
@@ -212,15 +212,19 @@ public final class ClothEdgesTest {
         for (int days : new int[] {1, 2, 39, 40}) {
             WhateverYard yard = Due.open("d0;u9;u9;t0 1 1 1;p0 1;");
             Due.due("drift(" + days + ")", yard.drift(days), 0);
-            int seed = 0;
-            for (int i = 0; i < 2 * days; i++) seed = (int) ((seed * 1103515245L + 12345L) % 2147483648L);
-            Due.due("the seed after " + days + " days", yard.seed(0), seed);
+            Due.due("the seed after " + days + " days", yard.seed(0), seedAfter(2 * days));
             Due.due("one can be undone", yard.told(11), 1);
         }
         WhateverYard yard = Due.open("d0;u9;u9;t0 1 1 1;p0 1;");
         Due.due("drift(0)", yard.drift(0), Due.OUTSIDE);
         Due.due("drift(41)", yard.drift(41), Due.OUTSIDE);
         Due.due("no draws", yard.seed(0), 0);
+    }
+
+    private static long seedAfter(int draws) {
+        long seed = 0;
+        for (int i = 0; i < draws; i++) seed = (seed * 1103515245L + 12345L) % 2147483648L;
+        return seed;
     }
 
     /** "If there are any of both." */
@@ -246,6 +250,8 @@ public final class ClothEdgesTest {
         Due.due("waste", yard.told(7), 90000);
         int wasted = yard.drift(40);
         Due.due("drift(40) from 90000 to " + wasted, wasted > 90000 ? 1 : 0, 1);
+        int seed = yard.seed(0);
+        Due.due("all forty days", seed, seedAfter(80));
         Due.due("drift(1) from above", yard.drift(1), Due.FULL);
         yard.undo();
         Due.due("drift undone", yard.told(7), 90000);

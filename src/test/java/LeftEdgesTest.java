@@ -232,6 +232,11 @@ public final class LeftEdgesTest {
         Due.due("image 0", yard.piece(0, 0), 360);
         Due.due("goBack(1)", yard.goBack(1), 1);
         Due.due("image 1", yard.piece(0, 0), 324);
+        Due.due("goBack(1) again", yard.goBack(1), 1);
+        Due.due("keep(0) over the other", yard.keep(0), 1);
+        yard.cut(0, 0, 1);
+        Due.due("goBack(0)", yard.goBack(0), 1);
+        Due.due("image 0, kept over", yard.piece(0, 0), 324);
         yard = Due.open(SHOP);
         yard.keep(1);
         Due.due("goBack(0), 1 kept", yard.goBack(0), Due.NOT);

@@ -72,7 +72,9 @@ public final class TextEdgesTest {
         fault("d9;" + " ".repeat(235) + "u0", 2, 239);
         yard = new WhateverYard();
         Due.feed(yard, "d9;" + " ".repeat(237));
+        Due.due("told(5) when full", yard.told(5), 240);
         Due.due("a 241st", yard.feed('x'), Due.FULL);
+        Due.due("told(5) behind it", yard.told(5), 240);
         Due.due("shop() without the 241st", yard.shop(), 0);
         Due.due("told(0)", yard.told(0), 9);
         Due.due("feed() behind it", yard.feed('x'), 1);

@@ -6,6 +6,7 @@ public final class TriedEdgesTest {
     public static void main(String[] args) {
         agreeOfNothing();
         heightsWholeOrNot();
+        heightsThatNearlyAgree();
         usesWithoutTables();
         clashIsTheFirst();
         slipsAlone();
@@ -51,7 +52,7 @@ public final class TriedEdgesTest {
         heights(SIX + "t5 0 20 1;", 1, Due.NONE, 0);
     }
 
-    /** "U heights of A are V heights of B (whole or not)", to the last part of 5909760. */
+    /** "U heights of A are V heights of B (whole or not)". */
     private static void heightsWholeOrNot() {
         heights(FOUR + "t0 1 3 7;t1 2 5 11;t0 2 15 19;", 0, 2, 7);
         heights(FOUR + "t0 1 3 7;t1 0 7 3;", 1, Due.NONE, 0);
@@ -60,12 +61,29 @@ public final class TriedEdgesTest {
         heights(FOUR + "t0 1 2 3;t1 2 3 5;t2 0 5 2;", 1, Due.NONE, 0);
         heights(FOUR + "t0 1 2 3;t1 2 3 5;t0 2 2 5;", 1, Due.NONE, 0);
         heights(FOUR + "t0 1 2 3;t1 2 3 5;t0 2 5 2;", 0, 2, 7);
-        // Round once it is 361 for 360, then 5909761 for 5909760, and last 1 for 2 of parts that are powers of 2.
+        heights(SIX + "t0 1 19 15;t1 2 19 15;t2 3 17 17;t3 4 17 19;t4 5 15 19;t5 0 15 17;", 1, Due.NONE, 0);
+        heights(SIX + "t0 1 19 17;t1 2 19 15;t2 3 17 13;t3 4 17 19;t4 5 15 17;t0 5 13 19;", 0, 5, 63);
+        // Round once it is 361 for 360, then 1 for 2 of parts that are high powers of 2.
         heights(SIX + "t0 1 19 20;t1 2 19 18;t2 3 1 1;t3 4 1 1;t4 5 1 1;t5 0 1 1;", 0, 5, 63);
-        heights(SIX + "t0 1 11 3;t1 2 11 16;t2 3 13 18;t3 4 13 18;t4 5 17 19;t5 0 17 20;", 0, 5, 63);
         heights(SIX + "t0 1 16 16;t1 2 16 16;t2 3 16 16;t3 4 16 16;t4 5 16 16;t5 4 1 2;", 0, 5, 48);
         heights(SIX + "t0 1 20 19;t1 2 20 19;t2 3 20 19;t3 4 20 19;t4 5 20 19;t1 0 19 20;t2 1 19 20;t3 2 19 20;", 1, Due.NONE, 0);
         heights(SIX + "t0 1 20 1;t1 2 20 1;t2 3 20 1;t3 4 20 1;t4 5 20 1;t5 4 1 20;t4 3 1 20;t3 2 1 20;", 1, Due.NONE, 0);
+    }
+
+    /** Six TABLES round, from any USE on, by which 5909761 would be 5909760. */
+    private static void heightsThatNearlyAgree() {
+        int[] given = {11, 11, 13, 13, 17, 17};
+        int[] got = {3, 16, 18, 18, 19, 20};
+        for (int first = 0; first < 6; first++) {
+            for (int step = 1; step <= 5; step += 4) {
+                StringBuilder text = new StringBuilder(SIX);
+                for (int i = 0; i < 6; i++) {
+                    int use = (first + i * step) % 6, u = given[(first + i) % 6], v = got[(first * 5 + i) % 6];
+                    text.append("t" + use + " " + (use + step) % 6 + " " + u + " " + v + ";");
+                }
+                heights(text.toString(), 0, 5, 63);
+            }
+        }
     }
 
     /** "USES without any TABLE do no harm", nor do several parts without a TABLE between them. */
@@ -222,8 +240,10 @@ public final class TriedEdgesTest {
         gain("d99;u9;u9;t0 1 20 1;t1 0 1 1;", Due.NONE, Due.NONE);
     }
 
-    /** "By 1 to 4 TURNS". */
+    /** "By 1 to 4 TURNS (as for MOST)": DUES are not taken. */
     private static void gainByTurns() {
+        gain("d99;u1;u99;t0 1 1 2;t1 0 1 1;", 0, 80);
+        gain("d5;u1;u99;t0 1 1 20;t1 0 19 1;", 0, 22);
         gain(SIX + "t0 1 1 2;t1 0 1 1;", 0, 80);
         gain(SIX + "t0 1 1 1;t1 2 1 1;t2 0 1 2;", 0, 40);
         gain(SIX + "t0 1 1 1;t1 2 1 1;t2 3 1 1;t3 0 1 2;", 0, 40);
