@@ -175,6 +175,9 @@ public final class ClothEdgesTest {
         yard.change(0, 0);
         Due.due("36 less 1 yards", yard.change(1, 3), 56 + 35 * 7);
         Due.dueSum(yard, "after changes", 396, 301, 0, 5);
+        yard = Due.open("d99;u2;u1;u3;p0 1;p2 1;");
+        Due.due("2 less 1 yards", yard.change(0, 1), 99);
+        Due.due("1 less 1 yards", yard.change(1, 0), 99);
         yard = Due.open("d0;u36;u1;p0 40;");
         Due.due("without dues", yard.change(0, 1), 0);
         Due.due("declared all the same", yard.piece(0, 1), 1);

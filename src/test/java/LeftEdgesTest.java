@@ -18,6 +18,7 @@ public final class LeftEdgesTest {
         drawsByHand();
         twoImages();
         imagesKeep();
+        bothImagesKeepAll();
         imagesDoNotKeep();
         nothingToUndoByImages();
         Due.end();
@@ -266,6 +267,32 @@ public final class LeftEdgesTest {
         Due.due("the seed", yard.seed(0), 11);
         yard.goBack(0);
         Due.due("the seed again", yard.seed(0), 11);
+    }
+
+    /** Six PIECES, PAID, WASTE and THE SEED of both IMAGES, and nothing of the one in the other. */
+    private static void bothImagesKeepAll() {
+        WhateverYard yard = Due.open("d10;u36;u20;t0 1 1 1;p0 1;p0 2;p0 3;p0 4;p0 5;p0 6;");
+        for (int p = 0; p < 6; p++) yard.turn(p, 0);
+        yard.seed(2147483647);
+        yard.keep(0);
+        for (int p = 0; p < 6; p++) yard.change(p, 0);
+        for (int p = 0; p < 6; p += 2) yard.change(p, 1);
+        yard.seed(1);
+        yard.keep(1);
+        for (int p = 0; p < 6; p++) yard.cut(p, 1, 1);
+        for (int again = 0; again < 2; again++) {
+            Due.due("goBack(0)", yard.goBack(0), 1);
+            Due.dueSum(yard, "image 0", 420, 0, 336, 0);
+            for (int p = 0; p < 6; p++) Due.due("image 0: piece(" + p + ", 0)", yard.piece(p, 0), 20 * p + 20);
+            for (int p = 0; p < 6; p++) Due.due("image 0: piece(" + p + ", 1)", yard.piece(p, 1), 1);
+            Due.due("image 0: the seed", yard.seed(5), 2147483647);
+            Due.due("goBack(1)", yard.goBack(1), 1);
+            // 1 less 0, 3 less 1, 5 less 2 yards.
+            Due.dueSum(yard, "image 1", 420, 60, 336, 0);
+            for (int p = 0; p < 6; p++) Due.due("image 1: piece(" + p + ", 0)", yard.piece(p, 0), 20 * p + 20);
+            for (int p = 0; p < 6; p++) Due.due("image 1: piece(" + p + ", 1)", yard.piece(p, 1), 1 - p % 2);
+            Due.due("image 1: the seed", yard.seed(5), 1);
+        }
     }
 
     /** LEFT, THE BOOK and THE TEXT are not among what an IMAGE keeps. */
