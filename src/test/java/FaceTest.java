@@ -5,6 +5,8 @@ import java.lang.reflect.Method;
 import java.lang.reflect.Modifier;
 import java.nio.file.Files;
 import java.nio.file.Path;
+import java.util.ArrayList;
+import java.util.List;
 import java.util.Set;
 import java.util.TreeSet;
 import java.util.regex.Pattern;
@@ -25,6 +27,8 @@ public final class FaceTest {
         fields();
         constants();
         words();
+        shapes();
+        lines();
         Due.end();
     }
 
@@ -87,5 +91,46 @@ public final class FaceTest {
         for (int i = 0; i < source.length(); i++) {
             if (source.charAt(i) > 126) Due.due("letter " + i + " of the source", source.charAt(i), 126);
         }
+    }
+
+    /** Rules 1, 5 and 11: what the classes are made of. */
+    private static void shapes() {
+        List<Class<?>> classes = new ArrayList<>(List.of(WhateverYard.class.getDeclaredClasses()));
+        classes.add(WhateverYard.class);
+        Due.due(classes.size() + " classes are at most twelve", classes.size() <= 12 ? 1 : 0, 1);
+        for (Class<?> one : classes) {
+            int own = 0;
+            for (Field field : one.getDeclaredFields()) {
+                boolean fixed = Modifier.isStatic(field.getModifiers());
+                if (!fixed) own++;
+                else Due.due(field + " is final", Modifier.isFinal(field.getModifiers()) ? 1 : 0, 1);
+            }
+            Due.due(one + " has at most twenty fields", own <= 20 ? 1 : 0, 1);
+            for (Method method : one.getDeclaredMethods()) {
+                if (method.isSynthetic()) continue;
+                Due.due(method + " takes at most seven", method.getParameterCount() <= 7 ? 1 : 0, 1);
+                boolean like = one != WhateverYard.class && FACE.matches("(.* )?" + method.getName() + "\\(.*");
+                Due.due(method + " bears the name of a public one", like ? 1 : 0, 0);
+            }
+        }
+    }
+
+    /** Rules 11 and 12: methods are short, and nothing is made but with the object itself. */
+    private static void lines() throws IOException {
+        List<String> source = Files.readAllLines(Path.of("src/main/java/WhateverYard.java"));
+        int methods = 0;
+        for (int i = 0; i < source.size(); i++) {
+            String line = source.get(i);
+            boolean makes = line.matches(".*\\bnew \\w.*") && !line.matches(" *(/?\\*|//).*");
+            boolean within = line.matches(" {4,8}(private )?(final )?\\w+ \\w+ = new \\w+\\(.*\\);|            cells = new int\\[.*");
+            Due.due("line " + (i + 1) + " makes something in a call", makes && !within ? 1 : 0, 0);
+            if (!line.matches(" {4,8}\\w.*\\) \\{") || line.matches(" *(if|for|while|switch|else)\\b.*")) continue;
+            String end = line.replaceAll("\\S.*", "") + "}";
+            int last = i;
+            while (last < source.size() && !source.get(last).equals(end)) last++;
+            Due.due("lines of " + line.trim() + " are at most sixty", last - i <= 60 ? 1 : 0, 1);
+            methods++;
+        }
+        Due.due("methods were found", methods > 100 ? 1 : 0, 1);
     }
 }
